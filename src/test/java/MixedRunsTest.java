@@ -1,0 +1,138 @@
+/**
+ * Long mixed runs, always the same ones: every answer is compared with that of
+ * PlainModel, and all that can be told is compared at the end of each run.
+ */
+public final class MixedRunsTest {
+    private static final int RUNS = 3000;
+    private static final int CALLS = 300;
+    private static final int[] EDGES = {
+        Integer.MIN_VALUE, -1000, -2, -1, 0, 1, 2, 3, 4, 5, 6, 8, 10, 11, 16, 17, 31, 32, 33, 60, 61, 500,
+        Integer.MAX_VALUE
+    };
+    private static final long[] LONG_EDGES = {
+        Long.MIN_VALUE, -1, 0, 1, 10, 999999, 1000000, 1000001, 1L << 32, (1L << 40) - 1, 1L << 40,
+        (1L << 40) + 1, 1L << 41, Long.MAX_VALUE
+    };
+
+    private final Check check = new Check();
+    private long seed;
+    private ProtectHooks x;
+    private PlainModel model;
+    private long clock;
+    private int quietness;
+
+    private MixedRunsTest() {
+    }
+
+    public static void main(String[] args) {
+        MixedRunsTest test = new MixedRunsTest();
+        for (int run = 0; run < RUNS; run++) {
+            test.run(run);
+        }
+        test.check.end();
+    }
+
+    private void run(int number) {
+        seed = number * 7919L + 1;
+        x = new ProtectHooks();
+        model = new PlainModel();
+        clock = 0;
+        // Shutting down ends what a run can show, so most runs see it seldom.
+        quietness = number % 4 == 0 ? 0 : 60;
+        for (int call = 0; call < CALLS; call++) {
+            step("run " + number + " call " + call + ": ", next(100));
+        }
+        compareAll("run " + number + " at the end: ");
+    }
+
+    private int next(int bound) {
+        seed = seed * 6364136223846793005L + 1442695040888963407L;
+        return (int) ((seed >>> 33) % bound);
+    }
+
+    private int number(int low, int high) {
+        return next(20) == 0 ? EDGES[next(EDGES.length)] : low + next(high - low + 1);
+    }
+
+    private long large(long low, int span) {
+        return next(20) == 0 ? LONG_EDGES[next(LONG_EDGES.length)] : low + next(span);
+    }
+
+    private void step(String where, int choice) {
+        if (choice < 4) {
+            int restarts = number(0, 4);
+            check.due(where + "application(" + restarts + ")", x.application(restarts), model.application(restarts));
+        } else if (choice < 14) {
+            int application = number(1, 6);
+            long spacing = large(0, 12);
+            check.due(where + "task(" + application + ", " + spacing + ")",
+                x.task(application, spacing), model.task(application, spacing));
+        } else if (choice < 20) {
+            region(where);
+        } else if (choice < 50) {
+            int task = number(1, 12);
+            int kind = number(0, next(3) == 0 ? 3 : 2);
+            int what = number(1, 32);
+            check.due(where + "holds(" + task + ", " + kind + ", " + what + ")",
+                x.holds(task, kind, what), model.holds(task, kind, what));
+        } else if (choice < 60) {
+            int task = number(1, 12);
+            int kind = number(1, 5);
+            check.due(where + "fault(" + task + ", " + kind + ")", x.fault(task, kind), model.fault(task, kind));
+        } else if (choice < 68) {
+            hook(where);
+        } else {
+            stepOfTasks(where, choice);
+        }
+    }
+
+    private void region(String where) {
+        int application = number(1, 6);
+        long from = large(0, 50);
+        long n = large(1, 10);
+        check.due(where + "region(" + application + ", " + from + ", " + n + ")",
+            x.region(application, from, n), model.region(application, from, n));
+    }
+
+    private void hook(String where) {
+        int level = number(0, 2);
+        int does = number(0, next(100) < quietness ? 4 : 5);
+        boolean fails = next(10) == 0 && next(100) >= quietness;
+        check.due(where + "hook(" + level + ", " + does + ", " + fails + ")",
+            x.hook(level, does, fails), model.hook(level, does, fails));
+    }
+
+    private void stepOfTasks(String where, int choice) {
+        int task = number(1, 12);
+        if (choice < 86) {
+            clock += next(3);
+            long t = next(60) == 0 ? LONG_EDGES[next(LONG_EDGES.length)] : clock - (next(12) == 0 ? 4 : 0);
+            check.due(where + "arrival(" + task + ", " + t + ")", x.arrival(task, t), model.arrival(task, t));
+        } else if (choice < 91) {
+            long address = large(0, 60);
+            check.due(where + "access(" + task + ", " + address + ")",
+                x.access(task, address), model.access(task, address));
+        } else if (choice < 95) {
+            long address = large(0, 60);
+            check.due(where + "trusted(" + task + ", " + address + ")",
+                x.trusted(task, address), model.trusted(task, address));
+        } else {
+            tell(where, number(-1, 20), number(0, 4));
+        }
+    }
+
+    private void tell(String where, int i, int what) {
+        check.due(where + "cleaned(" + i + ", " + what + ")", x.cleaned(i, what), model.cleaned(i, what));
+        check.due(where + "log(" + i + ", " + what + ")", x.log(i, what), model.log(i, what));
+        check.due(where + "state(" + i + ")", x.state(i), model.state(i));
+    }
+
+    private void compareAll(String where) {
+        int most = Math.max(model.log(-1, 0), model.cleaned(-1, 0)) + 1;
+        for (int i = -1; i < most; i++) {
+            for (int what = 0; what < 4; what++) {
+                tell(where, i, what);
+            }
+        }
+    }
+}

@@ -1,0 +1,51 @@
+/** Any arguments, in any state, far beyond the 512 calls: no call may throw. */
+public final class NeverThrowsTest {
+    private static final int[] INTS = {
+        Integer.MIN_VALUE, Integer.MIN_VALUE + 1, -1001, -1, 0, 1, 2, 3, 4, 5, 6, 15, 16, 17, 32, 33, 59, 60, 61,
+        127, 128, 499, 500, 501, Integer.MAX_VALUE - 1, Integer.MAX_VALUE
+    };
+    private static final long[] LONGS = {
+        Long.MIN_VALUE, -1, 0, 1, 1000000, 1000001, 1L << 40, (1L << 40) + 1, 1L << 41, Long.MAX_VALUE
+    };
+
+    public static void main(String[] args) {
+        Check check = new Check();
+        everyEdge(new ProtectHooks());
+        everyEdge(Systems.of(10, 60));
+        everyEdge(Systems.of(0, 60, 1));
+        everyEdge(Systems.of(10, 2, 4));
+        everyEdge(Systems.down());
+        ProtectHooks x = Systems.of(10, 1, 1);
+        for (int i = 0; i < 100000; i++) {
+            x.fault(1, 1);
+        }
+        check.due("log(-1, 0)", x.log(-1, 0), 100000);
+        check.due("log(500, 0)", x.log(500, 0), -1);
+        check.end();
+    }
+
+    private static void everyEdge(ProtectHooks x) {
+        for (int a : INTS) {
+            x.application(a);
+            x.state(a);
+            for (int b : INTS) {
+                x.cleaned(a, b);
+                x.log(a, b);
+                x.hook(a, b, false);
+                x.fault(a, b);
+                for (int c : INTS) {
+                    x.holds(a, b, c);
+                }
+            }
+            for (long b : LONGS) {
+                x.task(a, b);
+                x.arrival(a, b);
+                x.trusted(a, b);
+                x.access(a, b);
+                for (long c : LONGS) {
+                    x.region(a, b, c);
+                }
+            }
+        }
+    }
+}

@@ -1,3 +1,8 @@
+import java.util.List;
+import java.util.function.Function;
+import java.util.function.Supplier;
+import java.util.function.ToIntFunction;
+
 /** Counts answers that are not as due, and ends a test with exit code 1 if there was one. */
 final class Check {
     private int wrong = 0;
@@ -23,6 +28,27 @@ final class Check {
         due("log(" + i + ", 1)", x.log(i, 1), kind);
         due("log(" + i + ", 2)", x.log(i, 2), level);
         due("log(" + i + ", 3)", x.log(i, 3), reaction);
+    }
+
+    /**
+     * A call that is refused: two systems with the same past get the same
+     * calls afterwards, but only one was asked, twice, for what is refused.
+     */
+    void refused(String call, Supplier<ProtectHooks> past, ToIntFunction<ProtectHooks> refusal, int want) {
+        for (Function<ProtectHooks, List<Integer>> future : Futures.ALL) {
+            ProtectHooks without = past.get();
+            ProtectHooks with = past.get();
+            due(call, refusal.applyAsInt(with), want);
+            due(call + " again", refusal.applyAsInt(with), want);
+            dueSame("behind " + call + ": ", future.apply(with), future.apply(without));
+        }
+    }
+
+    private void dueSame(String where, List<Integer> got, List<Integer> want) {
+        due(where + "answers", got.size(), want.size());
+        for (int i = 0; i < want.size() && i < got.size(); i++) {
+            due(where + "answer " + i, got.get(i), want.get(i));
+        }
     }
 
     void end() {

@@ -20,6 +20,9 @@ public final class MixedRunsTest {
     private PlainModel model;
     private long clock;
     private int quietness;
+    private int edginess;
+    private int mostApplications;
+    private int mostTasks;
 
     private MixedRunsTest() {
     }
@@ -39,10 +42,28 @@ public final class MixedRunsTest {
         clock = 0;
         // Shutting down ends what a run can show, so most runs see it seldom.
         quietness = number % 4 == 0 ? 0 : 60;
+        edginess = number % 5 == 0 ? 10 : 1;
+        boolean wide = number % 3 == 0;
+        mostApplications = wide ? 17 : 6;
+        mostTasks = wide ? 61 : 12;
+        if (wide) {
+            fillUp("run " + number + " at first: ");
+        }
         for (int call = 0; call < CALLS; call++) {
             step("run " + number + " call " + call + ": ", next(100));
         }
         compareAll("run " + number + " at the end: ");
+    }
+
+    /** Close to the room's end, which the calls of a run reach seldom by themselves. */
+    private void fillUp(String where) {
+        for (int i = 0; i < 14; i++) {
+            check.due(where + "application", x.application(i % 11), model.application(i % 11));
+        }
+        for (int i = 0; i < 56; i++) {
+            int application = 1 + next(14);
+            check.due(where + "task", x.task(application, i), model.task(application, i));
+        }
     }
 
     private int next(int bound) {
@@ -51,11 +72,11 @@ public final class MixedRunsTest {
     }
 
     private int number(int low, int high) {
-        return next(20) == 0 ? EDGES[next(EDGES.length)] : low + next(high - low + 1);
+        return next(20) < edginess ? EDGES[next(EDGES.length)] : low + next(high - low + 1);
     }
 
     private long large(long low, int span) {
-        return next(20) == 0 ? LONG_EDGES[next(LONG_EDGES.length)] : low + next(span);
+        return next(20) < edginess ? LONG_EDGES[next(LONG_EDGES.length)] : low + next(span);
     }
 
     private void step(String where, int choice) {
@@ -63,20 +84,20 @@ public final class MixedRunsTest {
             int restarts = number(0, 4);
             check.due(where + "application(" + restarts + ")", x.application(restarts), model.application(restarts));
         } else if (choice < 14) {
-            int application = number(1, 6);
+            int application = number(1, mostApplications);
             long spacing = large(0, 12);
             check.due(where + "task(" + application + ", " + spacing + ")",
                 x.task(application, spacing), model.task(application, spacing));
         } else if (choice < 20) {
             region(where);
         } else if (choice < 50) {
-            int task = number(1, 12);
+            int task = number(1, mostTasks);
             int kind = number(0, next(3) == 0 ? 3 : 2);
             int what = number(1, 32);
             check.due(where + "holds(" + task + ", " + kind + ", " + what + ")",
                 x.holds(task, kind, what), model.holds(task, kind, what));
         } else if (choice < 60) {
-            int task = number(1, 12);
+            int task = number(1, mostTasks);
             int kind = number(1, 5);
             check.due(where + "fault(" + task + ", " + kind + ")", x.fault(task, kind), model.fault(task, kind));
         } else if (choice < 68) {
@@ -87,7 +108,7 @@ public final class MixedRunsTest {
     }
 
     private void region(String where) {
-        int application = number(1, 6);
+        int application = number(1, mostApplications);
         long from = large(0, 50);
         long n = large(1, 10);
         check.due(where + "region(" + application + ", " + from + ", " + n + ")",
@@ -103,7 +124,7 @@ public final class MixedRunsTest {
     }
 
     private void stepOfTasks(String where, int choice) {
-        int task = number(1, 12);
+        int task = number(1, mostTasks);
         if (choice < 86) {
             clock += next(3);
             long t = next(60) == 0 ? LONG_EDGES[next(LONG_EDGES.length)] : clock - (next(12) == 0 ? 4 : 0);

@@ -1,10 +1,12 @@
 /**
  * Long mixed runs, always the same ones: every answer is compared with that of
- * PlainModel, and all that can be told is compared at the end of each run.
+ * PlainModel. A run has 512 calls, as many as an object is used for; most runs
+ * keep the last of them for what can be told.
  */
 public final class MixedRunsTest {
     private static final int RUNS = 3000;
-    private static final int CALLS = 300;
+    private static final int CALLS = 512;
+    private static final int CALLS_BEFORE_TELLING = 330;
     private static final int[] EDGES = {
         Integer.MIN_VALUE, -1000, -2, -1, 0, 1, 2, 3, 4, 5, 6, 8, 10, 11, 16, 17, 31, 32, 33, 60, 61, 500,
         Integer.MAX_VALUE
@@ -18,6 +20,7 @@ public final class MixedRunsTest {
     private long seed;
     private ProtectHooks x;
     private PlainModel model;
+    private int calls;
     private long clock;
     private int quietness;
     private int edginess;
@@ -39,6 +42,7 @@ public final class MixedRunsTest {
         seed = number * 7919L + 1;
         x = new ProtectHooks();
         model = new PlainModel();
+        calls = 0;
         clock = 0;
         // Shutting down ends what a run can show, so most runs see it seldom.
         quietness = number % 4 == 0 ? 0 : 60;
@@ -49,20 +53,27 @@ public final class MixedRunsTest {
         if (wide) {
             fillUp("run " + number + " at first: ");
         }
-        for (int call = 0; call < CALLS; call++) {
-            step("run " + number + " call " + call + ": ", next(100));
+        int doing = number % 7 < 5 ? CALLS_BEFORE_TELLING : CALLS;
+        while (calls < doing) {
+            step("run " + number + " call " + calls + ": ", next(100));
         }
-        compareAll("run " + number + " at the end: ");
+        tellTheRest("run " + number + " at the end: ");
+        check.due("calls of run " + number, calls, CALLS);
+    }
+
+    private void due(String call, long got, long want) {
+        calls++;
+        check.due(call, got, want);
     }
 
     /** Close to the room's end, which the calls of a run reach seldom by themselves. */
     private void fillUp(String where) {
         for (int i = 0; i < 14; i++) {
-            check.due(where + "application", x.application(i % 11), model.application(i % 11));
+            due(where + "application", x.application(i % 11), model.application(i % 11));
         }
         for (int i = 0; i < 56; i++) {
             int application = 1 + next(14);
-            check.due(where + "task", x.task(application, i), model.task(application, i));
+            due(where + "task", x.task(application, i), model.task(application, i));
         }
     }
 
@@ -82,11 +93,11 @@ public final class MixedRunsTest {
     private void step(String where, int choice) {
         if (choice < 4) {
             int restarts = number(0, 4);
-            check.due(where + "application(" + restarts + ")", x.application(restarts), model.application(restarts));
+            due(where + "application(" + restarts + ")", x.application(restarts), model.application(restarts));
         } else if (choice < 14) {
             int application = number(1, mostApplications);
             long spacing = large(0, 12);
-            check.due(where + "task(" + application + ", " + spacing + ")",
+            due(where + "task(" + application + ", " + spacing + ")",
                 x.task(application, spacing), model.task(application, spacing));
         } else if (choice < 20) {
             region(where);
@@ -94,12 +105,12 @@ public final class MixedRunsTest {
             int task = number(1, mostTasks);
             int kind = number(0, next(3) == 0 ? 3 : 2);
             int what = number(1, 32);
-            check.due(where + "holds(" + task + ", " + kind + ", " + what + ")",
+            due(where + "holds(" + task + ", " + kind + ", " + what + ")",
                 x.holds(task, kind, what), model.holds(task, kind, what));
         } else if (choice < 60) {
             int task = number(1, mostTasks);
             int kind = number(1, 5);
-            check.due(where + "fault(" + task + ", " + kind + ")", x.fault(task, kind), model.fault(task, kind));
+            due(where + "fault(" + task + ", " + kind + ")", x.fault(task, kind), model.fault(task, kind));
         } else if (choice < 68) {
             hook(where);
         } else {
@@ -111,7 +122,7 @@ public final class MixedRunsTest {
         int application = number(1, mostApplications);
         long from = large(0, 50);
         long n = large(1, 10);
-        check.due(where + "region(" + application + ", " + from + ", " + n + ")",
+        due(where + "region(" + application + ", " + from + ", " + n + ")",
             x.region(application, from, n), model.region(application, from, n));
     }
 
@@ -119,7 +130,7 @@ public final class MixedRunsTest {
         int level = number(0, 2);
         int does = number(0, next(100) < quietness ? 4 : 5);
         boolean fails = next(10) == 0 && next(100) >= quietness;
-        check.due(where + "hook(" + level + ", " + does + ", " + fails + ")",
+        due(where + "hook(" + level + ", " + does + ", " + fails + ")",
             x.hook(level, does, fails), model.hook(level, does, fails));
     }
 
@@ -128,14 +139,14 @@ public final class MixedRunsTest {
         if (choice < 86) {
             clock += next(3);
             long t = next(60) == 0 ? LONG_EDGES[next(LONG_EDGES.length)] : clock - (next(12) == 0 ? 4 : 0);
-            check.due(where + "arrival(" + task + ", " + t + ")", x.arrival(task, t), model.arrival(task, t));
+            due(where + "arrival(" + task + ", " + t + ")", x.arrival(task, t), model.arrival(task, t));
         } else if (choice < 91) {
             long address = large(0, 60);
-            check.due(where + "access(" + task + ", " + address + ")",
+            due(where + "access(" + task + ", " + address + ")",
                 x.access(task, address), model.access(task, address));
         } else if (choice < 95) {
             long address = large(0, 60);
-            check.due(where + "trusted(" + task + ", " + address + ")",
+            due(where + "trusted(" + task + ", " + address + ")",
                 x.trusted(task, address), model.trusted(task, address));
         } else {
             tell(where, number(-1, 20), number(0, 4));
@@ -143,17 +154,28 @@ public final class MixedRunsTest {
     }
 
     private void tell(String where, int i, int what) {
-        check.due(where + "cleaned(" + i + ", " + what + ")", x.cleaned(i, what), model.cleaned(i, what));
-        check.due(where + "log(" + i + ", " + what + ")", x.log(i, what), model.log(i, what));
-        check.due(where + "state(" + i + ")", x.state(i), model.state(i));
+        int choice = next(5);
+        if (choice < 2) {
+            due(where + "cleaned(" + i + ", " + what + ")", x.cleaned(i, what), model.cleaned(i, what));
+        } else if (choice < 4) {
+            due(where + "log(" + i + ", " + what + ")", x.log(i, what), model.log(i, what));
+        } else {
+            due(where + "state(" + i + ")", x.state(i), model.state(i));
+        }
     }
 
-    private void compareAll(String where) {
-        int most = Math.max(model.log(-1, 0), model.cleaned(-1, 0)) + 1;
-        for (int i = -1; i < most; i++) {
-            for (int what = 0; what < 4; what++) {
-                tell(where, i, what);
+    /** From a line on that differs from run to run: few runs have calls enough left for all lines. */
+    private void tellTheRest(String where) {
+        int most = Math.max(model.log(-1, 0), model.cleaned(-1, 0)) + 2;
+        int i = next(most) - 1;
+        while (calls < CALLS) {
+            for (int what = 0; what < 4 && calls < CALLS; what++) {
+                due(where + "log(" + i + ", " + what + ")", x.log(i, what), model.log(i, what));
+                if (calls < CALLS) {
+                    due(where + "cleaned(" + i + ", " + what + ")", x.cleaned(i, what), model.cleaned(i, what));
+                }
             }
+            i = i + 1 < most ? i + 1 : -1;
         }
     }
 }

@@ -1,4 +1,14 @@
-/** To end a task, an application, or to start it again: what is cleaned, in which order, and what fails. */
+/**
+ * "To END a task: it is not ALIVE; all THINGS that it holds are CLEANED: by
+ * kinds, of one kind by numbers: each is free then, and noted."
+ *
+ * "A THING of kind 3 FAILS when it is CLEANED, if another one of that kind has
+ * been CLEANED within the same FAULT before: then the system is shut down at
+ * once (that THING is free and noted; nothing is CLEANED behind it)."
+ *
+ * "To END an application: it has ENDED, and all its tasks that are ALIVE are
+ * ENDED, by numbers."
+ */
 public final class TermsCleaningTest {
     public static void main(String[] args) {
         Check check = new Check();

@@ -1,7 +1,12 @@
 import java.util.List;
 import java.util.function.Supplier;
 
-/** However the system went down: then there is nothing but what tells, for good. */
+/**
+ * "To SHUT DOWN: the system is DOWN, all tasks are not ALIVE, all applications
+ * have ENDED (THINGS stay as they are)."
+ *
+ * However it went down: "then there is nothing but what tells", for good.
+ */
 public final class TermsDownTest {
     private static final List<Supplier<ProtectHooks>> WAYS = List.of(
         TermsDownTest::byTheFirstHook, TermsDownTest::byTheLastHook, TermsDownTest::byAHookThatFails,
@@ -14,6 +19,7 @@ public final class TermsDownTest {
             itStaysDown(check, way);
             itTells(check, way);
         }
+        thingsStay(check);
         check.end();
     }
 
@@ -96,5 +102,20 @@ public final class TermsDownTest {
         check.due("log(2, 0), down", x.log(2, 0), 1);
         check.due("log(2, 3), down", x.log(2, 3), 5);
         check.dueCleaned(x, 1, 4, 3, 6);
+    }
+
+    /** "(THINGS stay as they are)" */
+    private static void thingsStay(Check check) {
+        for (int level = 0; level <= 2; level++) {
+            ProtectHooks x = Systems.full();
+            x.hook(level, 5, false);
+            check.due("fault(59, 1), level " + level + " shuts down", x.fault(59, 1), 5);
+            check.due("cleaned(-1, 0), down", x.cleaned(-1, 0), 0);
+            check.due("cleaned(0, 0), down", x.cleaned(0, 0), -1);
+            ProtectHooks failing = Systems.full();
+            failing.hook(level, 3, true);
+            check.due("access(59, -1), level " + level + " fails", failing.access(59, -1), -5);
+            check.due("cleaned(-1, 0), down", failing.cleaned(-1, 0), 0);
+        }
     }
 }

@@ -1,4 +1,8 @@
-/** To start an application again: with restarts left, and with none. */
+/**
+ * "To START IT AGAIN: its ALIVE tasks are ENDED likewise; then, if it has
+ * RESTARTS left, there is one less, and all its tasks are ALIVE; otherwise it
+ * has ENDED, and the REACTION is 3."
+ */
 public final class TermsRestartsTest {
     public static void main(String[] args) {
         Check check = new Check();
